@@ -346,7 +346,7 @@ public final class SpanningProbes {
             met = 0;
             open = 0;
             height = 0;
-            int count = 0;
+            int many = 0;
             enter(ENTRY);
             // Each step looks at one edge or comes back from one block, and none twice.
             int steps = graph.edges + graph.blocks;
@@ -356,8 +356,8 @@ public final class SpanningProbes {
                 if (e < 0) {
                     height--;
                     open &= ~bit(b);
-                    finished[count] = b;
-                    count++;
+                    finished[many] = b;
+                    many++;
                 } else {
                     lookedUpTo[b] = e + 1;
                     lookAt(e);
@@ -396,8 +396,8 @@ public final class SpanningProbes {
             order = new int[MOST_EDGES];
         }
 
+        /** Finds depths and order; it is done once. */
         void measure() {
-            Arrays.fill(depths, 0);
             for (int e = 0; e < graph.edges; e++) {
                 if (search.isBack[e]) {
                     deepen(loopOf(e));
@@ -424,13 +424,13 @@ public final class SpanningProbes {
         }
 
         private void putInOrder() {
-            int count = 0;
+            int many = 0;
             // No block is in more loops than there are edges.
             for (int weight = graph.edges; weight >= 0; weight--) {
                 for (int e = 0; e < graph.edges; e++) {
                     if (weightOf(e) == weight) {
-                        order[count] = e;
-                        count++;
+                        order[many] = e;
+                        many++;
                     }
                 }
             }
@@ -461,7 +461,7 @@ public final class SpanningProbes {
             }
         }
 
-        /** Whether the two blocks were not joined before. */
+        /** Joins two blocks; answers whether they were not joined before. */
         private boolean join(int a, int b) {
             int kept = group[a];
             int gone = group[b];

@@ -41,6 +41,7 @@ public final class ModelTest {
         name = "graph " + g;
         x = new SpanningProbes(n);
         model = new Model(n);
+        addMore(below(3) == 0 ? below(5) : 0);
         addSpine();
         addMore(below(4) == 0 ? 24 : below(8));
         sealOften();

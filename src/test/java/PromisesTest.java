@@ -18,6 +18,8 @@ public final class PromisesTest {
         probeFollowsWeight();
         increment();
         incrementFollowsWeight();
+        incrementWithBasesFoundBackwards();
+        firstEdgeIsBack();
         reset();
         start();
         take();
@@ -271,6 +273,29 @@ public final class PromisesTest {
         due.same("14: less than 0", z.register(), -1);
         z.take(3);
         due.same("17: passed(0) from less than 0", z.passed(0), 1);
+    }
+
+    private static void incrementWithBasesFoundBackwards() {
+        // Values 0, 0, 1, 1, 0, 0; edges 0, 1 and 2 are in the tree, so the base of block 3 is that
+        // of block 2 less 1, and block 4 has the same.
+        SpanningProbes x = sealed(5, 0, 2, 3, 4, 3, 2, 0, 3, 2, 1, 4, 1);
+        int[] want = {0, 0, 0, 2, 0, -1};
+        for (int e = 0; e < want.length; e++) {
+            due.same("7: backwards, increment(" + e + ")", x.increment(e), want[e]);
+        }
+    }
+
+    private static void firstEdgeIsBack() {
+        SpanningProbes x = sealed(3, 2, 2, 0, 2, 2, 1);
+        due.same("4: back(0)", x.back(0), true);
+        due.same("5: edge 0 is back, depth(2)", x.depth(2), 1);
+        due.same("8: reset(0)", x.reset(0), 2);
+        int[][] want = {{-1, 1, 0}, {-1, 1, 2}, {0, 0, NONE}, {0, 2, NONE}};
+        for (int w = 0; w < want.length; w++) {
+            for (int k = 0; k < 3; k++) {
+                due.same("18: edge 0 is back, along(" + w + ", " + k + ")", x.along(w, k), want[w][k]);
+            }
+        }
     }
 
     private static void incrementFollowsWeight() {
