@@ -40,43 +40,6 @@ public final class PromisesTest {
         due.end("PromisesTest");
     }
 
-    private static SpanningProbes graph(int n, int... ends) {
-        SpanningProbes x = new SpanningProbes(n);
-        for (int i = 0; i < ends.length; i += 2) {
-            x.edge(ends[i], ends[i + 1]);
-        }
-        return x;
-    }
-
-    private static SpanningProbes sealed(int n, int... ends) {
-        SpanningProbes x = graph(n, ends);
-        due.holds("a graph that is due to be sealed", x.seal() > 0);
-        return x;
-    }
-
-    private static void addMany(SpanningProbes x, int from, int to, int many) {
-        for (int i = 0; i < many; i++) {
-            x.edge(from, to);
-        }
-    }
-
-    /**
-     * Ten ways; edges 2 and 4 are back. Values: 0, 1, 0, 1, 0, 1; STARTs 4 and 7; bases of blocks 2
-     * and 3: 1 and 2. Ways: 0 | 1 2 | 1 3 4 | 1 3 5 | (2) 2 | (2) 3 4 | (2) 3 5 | (4) 2 | (4) 3 4 |
-     * (4) 3 5.
-     */
-    private static SpanningProbes nested() {
-        return sealed(4, 0, 1, 0, 2, 2, 2, 2, 3, 3, 2, 3, 1);
-    }
-
-    /** A run over edges 1 2 3 4 3 5, which completes the ways 1, 5 and 9. */
-    private static void runNested(SpanningProbes x) {
-        x.start();
-        for (int e : new int[] {1, 2, 3, 4, 3, 5}) {
-            due.holds("an edge of the run", x.take(e) >= 0);
-        }
-    }
-
     private static void newObject() {
         due.same("1: NONE", SpanningProbes.NONE, NONE);
         int[] asked = {Integer.MIN_VALUE, -1, 0, 1, 2, 3, 7, 11, 12, 13, 100, Integer.MAX_VALUE};
@@ -127,19 +90,19 @@ public final class PromisesTest {
         x.edge(0, 1);
         due.same("3: seal one edge", x.seal(), 1);
         due.same("3: seal twice", x.seal(), -1);
-        due.same("3: block 3 not reached", graph(4, 0, 2, 2, 1, 3, 1).seal(), -2);
-        due.same("3: EXIT not reached from 3", graph(4, 0, 2, 2, 1, 2, 3, 3, 3).seal(), -2);
-        due.same("3: EXIT not reached at all", graph(3, 0, 2, 2, 2).seal(), -2);
-        due.same("3: ENTRY apart", graph(3, 2, 1).seal(), -2);
-        due.same("3: ways of a diamond", graph(4, 0, 2, 0, 3, 2, 1, 3, 1).seal(), 2);
-        due.same("3: ways with loops", graph(4, 0, 1, 0, 2, 2, 2, 2, 3, 3, 2, 3, 1).seal(), 10);
+        due.same("3: block 3 not reached", Sample.graph(4, 0, 2, 2, 1, 3, 1).seal(), -2);
+        due.same("3: EXIT not reached from 3", Sample.graph(4, 0, 2, 2, 1, 2, 3, 3, 3).seal(), -2);
+        due.same("3: EXIT not reached at all", Sample.graph(3, 0, 2, 2, 2).seal(), -2);
+        due.same("3: ENTRY apart", Sample.graph(3, 2, 1).seal(), -2);
+        due.same("3: ways of a diamond", Sample.graph(4, 0, 2, 0, 3, 2, 1, 3, 1).seal(), 2);
+        due.same("3: ways with loops", Sample.graph(4, 0, 1, 0, 2, 2, 2, 2, 3, 3, 2, 3, 1).seal(), 10);
     }
 
     private static void sealLimit() {
         SpanningProbes x = new SpanningProbes(4);
-        addMany(x, 0, 2, 5);
-        addMany(x, 2, 3, 5);
-        addMany(x, 3, 1, 8);
+        Sample.addMany(x, 0, 2, 5);
+        Sample.addMany(x, 2, 3, 5);
+        Sample.addMany(x, 3, 1, 8);
         due.same("3: 200 ways", x.seal(), 200);
         due.same("3: way 199", x.along(199, 3), 17);
         due.same("3: no way 200", x.passed(200), -1);
@@ -150,9 +113,9 @@ public final class PromisesTest {
         due.same("3: way 199 was passed", x.passed(199), 1);
 
         SpanningProbes y = new SpanningProbes(4);
-        addMany(y, 0, 2, 5);
-        addMany(y, 2, 3, 5);
-        addMany(y, 3, 1, 8);
+        Sample.addMany(y, 0, 2, 5);
+        Sample.addMany(y, 2, 3, 5);
+        Sample.addMany(y, 3, 1, 8);
         y.edge(0, 1);
         due.same("3: 201 ways", y.seal(), -3);
         due.same("3: 201 ways, again", y.seal(), -3);
@@ -161,14 +124,14 @@ public final class PromisesTest {
         due.same("3: edges can be added", y.edge(3, 2), 19);
 
         SpanningProbes z = new SpanningProbes(5);
-        addMany(z, 0, 2, 8);
-        addMany(z, 2, 3, 8);
-        addMany(z, 3, 1, 8);
+        Sample.addMany(z, 0, 2, 8);
+        Sample.addMany(z, 2, 3, 8);
+        Sample.addMany(z, 3, 1, 8);
         due.same("3: -2 goes before -3", z.seal(), -2);
     }
 
     private static void sealAfterRefusal() {
-        SpanningProbes x = graph(4, 0, 2, 2, 3, 3, 2);
+        SpanningProbes x = Sample.graph(4, 0, 2, 2, 3, 3, 2);
         due.same("3: EXIT is not reached", x.seal(), -2);
         due.same("3: nothing is back then", x.back(2), false);
         due.same("3: more edges", x.edge(3, 1), 3);
@@ -178,7 +141,7 @@ public final class PromisesTest {
     }
 
     private static void back() {
-        SpanningProbes x = nested();
+        SpanningProbes x = Sample.nested();
         boolean[] want = {false, false, true, false, true, false};
         for (int e = 0; e < want.length; e++) {
             due.same("4: back(" + e + ")", x.back(e), want[e]);
@@ -186,36 +149,36 @@ public final class PromisesTest {
         due.same("4: back(-1)", x.back(-1), false);
         due.same("4: back(6)", x.back(6), false);
         due.same("4: back(MAX)", x.back(Integer.MAX_VALUE), false);
-        due.same("4: not sealed", graph(3, 0, 2, 2, 2, 2, 1).back(1), false);
+        due.same("4: not sealed", Sample.graph(3, 0, 2, 2, 2, 2, 1).back(1), false);
     }
 
     private static void backFollowsOrderOfNumbers() {
-        SpanningProbes x = sealed(4, 0, 2, 0, 3, 2, 3, 3, 2, 3, 1);
+        SpanningProbes x = Sample.sealed(4, 0, 2, 0, 3, 2, 3, 3, 2, 3, 1);
         due.same("4: 2 before 3, edge 2", x.back(2), false);
         due.same("4: 2 before 3, edge 3", x.back(3), true);
-        SpanningProbes y = sealed(4, 0, 3, 0, 2, 2, 3, 3, 2, 3, 1);
+        SpanningProbes y = Sample.sealed(4, 0, 3, 0, 2, 2, 3, 3, 2, 3, 1);
         due.same("4: 3 before 2, edge 2", y.back(2), true);
         due.same("4: 3 before 2, edge 3", y.back(3), false);
-        SpanningProbes z = sealed(4, 0, 2, 2, 3, 0, 3, 3, 1);
+        SpanningProbes z = Sample.sealed(4, 0, 2, 2, 3, 0, 3, 3, 1);
         due.same("4: to a block that the search has left", z.back(2), false);
     }
 
     private static void depth() {
-        SpanningProbes x = nested();
+        SpanningProbes x = Sample.nested();
         int[] want = {0, 0, 2, 1};
         for (int b = 0; b < want.length; b++) {
             due.same("5: depth(" + b + ")", x.depth(b), want[b]);
         }
         due.same("5: depth(-1)", x.depth(-1), -1);
         due.same("5: depth(4)", x.depth(4), -1);
-        due.same("5: not sealed", graph(3, 0, 2, 2, 1).depth(2), -1);
-        SpanningProbes y = sealed(3, 0, 2, 2, 2, 2, 2, 2, 1);
+        due.same("5: not sealed", Sample.graph(3, 0, 2, 2, 1).depth(2), -1);
+        SpanningProbes y = Sample.sealed(3, 0, 2, 2, 2, 2, 2, 2, 1);
         due.same("5: two back edges beside one another", y.depth(2), 2);
     }
 
     private static void depthOfLoopWithTwoWaysIn() {
         // Block 3 can be reached from ENTRY past block 2, so ENTRY is in the loop of edge 3.
-        SpanningProbes x = sealed(4, 0, 2, 0, 3, 2, 3, 3, 2, 3, 1);
+        SpanningProbes x = Sample.sealed(4, 0, 2, 0, 3, 2, 3, 3, 2, 3, 1);
         int[] want = {1, 0, 1, 1};
         for (int b = 0; b < want.length; b++) {
             due.same("5: two ways in, depth(" + b + ")", x.depth(b), want[b]);
@@ -223,23 +186,23 @@ public final class PromisesTest {
     }
 
     private static void probe() {
-        SpanningProbes x = nested();
+        SpanningProbes x = Sample.nested();
         boolean[] want = {true, false, true, false, true, true};
         for (int e = 0; e < want.length; e++) {
             due.same("6: probe(" + e + ")", x.probe(e), want[e]);
         }
         due.same("6: probe(-1)", x.probe(-1), false);
         due.same("6: probe(6)", x.probe(6), false);
-        due.same("6: not sealed", graph(2, 0, 1).probe(0), false);
-        due.same("6: ENTRY and EXIT are joined", sealed(2, 0, 1).probe(0), true);
-        SpanningProbes diamond = sealed(4, 0, 2, 0, 3, 2, 1, 3, 1);
+        due.same("6: not sealed", Sample.graph(2, 0, 1).probe(0), false);
+        due.same("6: ENTRY and EXIT are joined", Sample.sealed(2, 0, 1).probe(0), true);
+        SpanningProbes diamond = Sample.sealed(4, 0, 2, 0, 3, 2, 1, 3, 1);
         for (int e = 0; e < 4; e++) {
             due.same("6: smaller number first, probe(" + e + ")", diamond.probe(e), e >= 2);
         }
     }
 
     private static void probeFollowsWeight() {
-        SpanningProbes x = sealed(4, 0, 2, 3, 1, 2, 3, 3, 2);
+        SpanningProbes x = Sample.sealed(4, 0, 2, 3, 1, 2, 3, 3, 2);
         boolean[] want = {false, true, false, true};
         for (int e = 0; e < want.length; e++) {
             due.same("6: greater weight first, probe(" + e + ")", x.probe(e), want[e]);
@@ -247,22 +210,22 @@ public final class PromisesTest {
     }
 
     private static void increment() {
-        SpanningProbes x = nested();
+        SpanningProbes x = Sample.nested();
         int[] want = {0, 0, 1, 0, 2, 3};
         for (int e = 0; e < want.length; e++) {
             due.same("7: increment(" + e + ")", x.increment(e), want[e]);
         }
         due.same("7: increment(-1)", x.increment(-1), NONE);
         due.same("7: increment(6)", x.increment(6), NONE);
-        due.same("7: not sealed", graph(2, 0, 1).increment(0), NONE);
+        due.same("7: not sealed", Sample.graph(2, 0, 1).increment(0), NONE);
         // Values 0, 1, 2, 0, 0; edges 1 and 3 are in the tree, so the bases of blocks 2 and 3 are 1.
-        SpanningProbes y = sealed(4, 0, 1, 0, 2, 0, 2, 2, 3, 3, 1);
+        SpanningProbes y = Sample.sealed(4, 0, 1, 0, 2, 0, 2, 2, 3, 3, 1);
         int[] wantBeside = {0, 0, 1, 0, 1};
         for (int e = 0; e < wantBeside.length; e++) {
             due.same("7: edges beside one another, increment(" + e + ")", y.increment(e), wantBeside[e]);
         }
         // Values 0, 1, 0, 0; edges 0 and 1 are in the tree, so the base of block 3 is 1.
-        SpanningProbes z = sealed(4, 0, 2, 0, 3, 2, 3, 3, 1);
+        SpanningProbes z = Sample.sealed(4, 0, 2, 0, 3, 2, 3, 3, 1);
         int[] wantNegative = {0, 0, -1, 1};
         for (int e = 0; e < wantNegative.length; e++) {
             due.same("7: less than 0, increment(" + e + ")", z.increment(e), wantNegative[e]);
@@ -278,7 +241,7 @@ public final class PromisesTest {
     private static void incrementWithBasesFoundBackwards() {
         // Values 0, 0, 1, 1, 0, 0; edges 0, 1 and 2 are in the tree, so the base of block 3 is that
         // of block 2 less 1, and block 4 has the same.
-        SpanningProbes x = sealed(5, 0, 2, 3, 4, 3, 2, 0, 3, 2, 1, 4, 1);
+        SpanningProbes x = Sample.sealed(5, 0, 2, 3, 4, 3, 2, 0, 3, 2, 1, 4, 1);
         int[] want = {0, 0, 0, 2, 0, -1};
         for (int e = 0; e < want.length; e++) {
             due.same("7: backwards, increment(" + e + ")", x.increment(e), want[e]);
@@ -286,7 +249,7 @@ public final class PromisesTest {
     }
 
     private static void firstEdgeIsBack() {
-        SpanningProbes x = sealed(3, 2, 2, 0, 2, 2, 1);
+        SpanningProbes x = Sample.sealed(3, 2, 2, 0, 2, 2, 1);
         due.same("4: back(0)", x.back(0), true);
         due.same("5: edge 0 is back, depth(2)", x.depth(2), 1);
         due.same("8: reset(0)", x.reset(0), 2);
@@ -299,7 +262,7 @@ public final class PromisesTest {
     }
 
     private static void incrementFollowsWeight() {
-        SpanningProbes x = sealed(4, 0, 1, 0, 2, 3, 1, 2, 3, 3, 2);
+        SpanningProbes x = Sample.sealed(4, 0, 1, 0, 2, 3, 1, 2, 3, 3, 2);
         int[] want = {0, 0, 1, 0, 2};
         for (int e = 0; e < want.length; e++) {
             due.same("7: greater weight first, increment(" + e + ")", x.increment(e), want[e]);
@@ -308,18 +271,18 @@ public final class PromisesTest {
     }
 
     private static void reset() {
-        SpanningProbes x = nested();
+        SpanningProbes x = Sample.nested();
         int[] want = {NONE, NONE, 3, NONE, 6, NONE};
         for (int e = 0; e < want.length; e++) {
             due.same("8: reset(" + e + ")", x.reset(e), want[e]);
         }
         due.same("8: reset(-1)", x.reset(-1), NONE);
         due.same("8: reset(6)", x.reset(6), NONE);
-        due.same("8: not sealed", graph(3, 0, 2, 2, 2, 2, 1).reset(1), NONE);
+        due.same("8: not sealed", Sample.graph(3, 0, 2, 2, 2, 2, 1).reset(1), NONE);
     }
 
     private static void start() {
-        SpanningProbes x = graph(3, 0, 2, 2, 1);
+        SpanningProbes x = Sample.graph(3, 0, 2, 2, 1);
         due.same("9: not sealed", x.start(), false);
         due.same("9: at() then", x.at(), -1);
         x.seal();
@@ -339,7 +302,7 @@ public final class PromisesTest {
     }
 
     private static void take() {
-        SpanningProbes x = nested();
+        SpanningProbes x = Sample.nested();
         due.same("10: no run", x.take(0), -1);
         x.start();
         due.same("10: from another block", x.take(3), -1);
@@ -355,11 +318,11 @@ public final class PromisesTest {
         due.same("10: take(5), to EXIT", x.take(5), 1);
         due.same("10: the run has ended", x.at(), -1);
         due.same("10: take after the end", x.take(5), -1);
-        due.same("10: not sealed", graph(2, 0, 1).take(0), -1);
+        due.same("10: not sealed", Sample.graph(2, 0, 1).take(0), -1);
     }
 
     private static void walk() {
-        SpanningProbes x = nested();
+        SpanningProbes x = Sample.nested();
         due.same("11: no run", x.walk(0, 1), -1);
         x.start();
         due.same("11: n = -1", x.walk(1, -1), -1);
@@ -378,11 +341,11 @@ public final class PromisesTest {
         due.same("11: sixteen edges", x.walk(1, 16), 16);
         due.same("11: fifteen of them to itself", x.count(2), 16);
         due.same("11: not at the end", x.at(), 2);
-        due.same("11: not sealed", graph(2, 0, 1).walk(0, 1), -1);
+        due.same("11: not sealed", Sample.graph(2, 0, 1).walk(0, 1), -1);
     }
 
     private static void walkPicks() {
-        SpanningProbes x = sealed(4, 2, 1, 0, 2, 2, 2, 0, 3, 3, 2, 2, 3, 0, 1);
+        SpanningProbes x = Sample.sealed(4, 2, 1, 0, 2, 2, 2, 0, 3, 3, 2, 2, 3, 0, 1);
         int[] first = {1, 3, 6, 1};
         for (int place = 0; place < 4; place++) {
             x.clear();
@@ -397,7 +360,7 @@ public final class PromisesTest {
         due.same("11: edge 3", x.count(3), 1);
         due.same("11: edge 4", x.count(4), 1);
         due.same("11: edge 0", x.count(0), 1);
-        SpanningProbes y = sealed(2, 0, 1, 0, 1, 0, 1, 0, 1, 0, 1);
+        SpanningProbes y = Sample.sealed(2, 0, 1, 0, 1, 0, 1, 0, 1, 0, 1);
         for (int place = 0; place < 4; place++) {
             y.start();
             y.walk(place, 16);
@@ -407,7 +370,7 @@ public final class PromisesTest {
     }
 
     private static void stop() {
-        SpanningProbes x = nested();
+        SpanningProbes x = Sample.nested();
         due.same("12: no run", x.stop(), -1);
         x.start();
         due.same("12: at ENTRY", x.stop(), 0);
@@ -422,11 +385,11 @@ public final class PromisesTest {
         x.start();
         x.take(0);
         due.same("12: after the end", x.stop(), -1);
-        due.same("12: not sealed", graph(2, 0, 1).stop(), -1);
+        due.same("12: not sealed", Sample.graph(2, 0, 1).stop(), -1);
     }
 
     private static void at() {
-        SpanningProbes x = nested();
+        SpanningProbes x = Sample.nested();
         due.same("13: no run", x.at(), -1);
         x.start();
         due.same("13: ENTRY", x.at(), 0);
@@ -440,7 +403,7 @@ public final class PromisesTest {
     }
 
     private static void register() {
-        SpanningProbes x = nested();
+        SpanningProbes x = Sample.nested();
         due.same("14: no run", x.register(), 0);
         x.start();
         int[] edges = {1, 2, 3, 4, 3};
@@ -491,9 +454,9 @@ public final class PromisesTest {
     }
 
     private static void count() {
-        SpanningProbes x = nested();
+        SpanningProbes x = Sample.nested();
         dueRow("15: before, count", counts(x, 6), 0, 0, 0, 0, 0, 0);
-        runNested(x);
+        Sample.runNested(x);
         dueRow("15: after a run, count", counts(x, 6), 0, 1, 1, 2, 1, 1);
         x.start();
         x.take(1);
@@ -507,13 +470,13 @@ public final class PromisesTest {
         dueRow("15: three runs, count", counts(x, 6), 1, 2, 1, 3, 1, 1);
         due.same("15: count(-1)", x.count(-1), -1);
         due.same("15: count(6)", x.count(6), -1);
-        due.same("15: not sealed", graph(2, 0, 1).count(0), -1);
+        due.same("15: not sealed", Sample.graph(2, 0, 1).count(0), -1);
     }
 
     private static void visits() {
-        SpanningProbes x = nested();
+        SpanningProbes x = Sample.nested();
         dueRow("16: before, visits", visited(x, 4), 0, 0, 0, 0);
-        runNested(x);
+        Sample.runNested(x);
         dueRow("16: after a run, visits", visited(x, 4), 1, 1, 3, 2);
         x.start();
         dueRow("16: at ENTRY, visits", visited(x, 4), 2, 1, 3, 2);
@@ -523,12 +486,12 @@ public final class PromisesTest {
         dueRow("16: stopped, visits", visited(x, 4), 2, 1, 4, 2);
         due.same("16: visits(-1)", x.visits(-1), -1);
         due.same("16: visits(4)", x.visits(4), -1);
-        due.same("16: not sealed", graph(2, 0, 1).visits(0), -1);
+        due.same("16: not sealed", Sample.graph(2, 0, 1).visits(0), -1);
     }
 
     private static void passed() {
-        SpanningProbes x = nested();
-        runNested(x);
+        SpanningProbes x = Sample.nested();
+        Sample.runNested(x);
         x.start();
         x.take(0);
         x.start();
@@ -543,11 +506,11 @@ public final class PromisesTest {
         due.same("17: passed(-1)", x.passed(-1), -1);
         due.same("17: passed(10)", x.passed(10), -1);
         due.same("17: passed(MAX)", x.passed(Integer.MAX_VALUE), -1);
-        due.same("17: not sealed", graph(2, 0, 1).passed(0), -1);
+        due.same("17: not sealed", Sample.graph(2, 0, 1).passed(0), -1);
     }
 
     private static void along() {
-        SpanningProbes x = nested();
+        SpanningProbes x = Sample.nested();
         int[][] want = {
             {-1, 0}, {-1, 1, 2}, {-1, 1, 3, 4}, {-1, 1, 3, 5}, {2, 2},
             {2, 3, 4}, {2, 3, 5}, {4, 2}, {4, 3, 4}, {4, 3, 5},
@@ -562,15 +525,15 @@ public final class PromisesTest {
         }
         due.same("18: along(-1, 0)", x.along(-1, 0), NONE);
         due.same("18: along(10, 0)", x.along(10, 0), NONE);
-        due.same("18: not sealed", graph(2, 0, 1).along(0, 1), NONE);
+        due.same("18: not sealed", Sample.graph(2, 0, 1).along(0, 1), NONE);
         int[] chain = {0, 2, 2, 3, 3, 4, 4, 5, 5, 6, 6, 7, 7, 8, 8, 9, 9, 10, 10, 11, 11, 1};
-        SpanningProbes y = sealed(12, chain);
+        SpanningProbes y = Sample.sealed(12, chain);
         due.same("18: the last of eleven links", y.along(0, 11), 10);
         due.same("18: no twelfth link", y.along(0, 12), NONE);
     }
 
     private static void stopped() {
-        SpanningProbes x = nested();
+        SpanningProbes x = Sample.nested();
         x.start();
         x.stop();
         for (int i = 0; i < 2; i++) {
@@ -579,14 +542,14 @@ public final class PromisesTest {
             x.take(3);
             x.stop();
         }
-        runNested(x);
+        Sample.runNested(x);
         int[] want = {1, 0, 0, 2};
         for (int b = 0; b < want.length; b++) {
             due.same("19: stopped(" + b + ")", x.stopped(b), want[b]);
         }
         due.same("19: stopped(-1)", x.stopped(-1), -1);
         due.same("19: stopped(4)", x.stopped(4), -1);
-        due.same("19: not sealed", graph(2, 0, 1).stopped(0), -1);
+        due.same("19: not sealed", Sample.graph(2, 0, 1).stopped(0), -1);
     }
 
     private static void dueCovered(String when, SpanningProbes x, int... want) {
@@ -596,7 +559,7 @@ public final class PromisesTest {
     }
 
     private static void covered() {
-        SpanningProbes x = nested();
+        SpanningProbes x = Sample.nested();
         dueCovered("before", x, 0, 0, 0, 0, 0);
         x.start();
         dueCovered("at ENTRY", x, 1, 0, 0, 1, 0);
@@ -606,7 +569,7 @@ public final class PromisesTest {
         dueCovered("a way complete", x, 2, 2, 1, 1, 0);
         x.stop();
         dueCovered("stopped", x, 2, 2, 1, 1, 0);
-        runNested(x);
+        Sample.runNested(x);
         dueCovered("a run to EXIT", x, 4, 5, 3, 2, 1);
         x.start();
         x.take(0);
@@ -616,13 +579,13 @@ public final class PromisesTest {
         due.same("20: covered(-1)", x.covered(-1), -1);
         due.same("20: covered(5)", x.covered(5), -1);
         for (int what = -1; what < 6; what++) {
-            due.same("20: not sealed", graph(2, 0, 1).covered(what), -1);
+            due.same("20: not sealed", Sample.graph(2, 0, 1).covered(what), -1);
         }
     }
 
     private static void clear() {
-        SpanningProbes x = nested();
-        runNested(x);
+        SpanningProbes x = Sample.nested();
+        Sample.runNested(x);
         x.start();
         x.take(1);
         x.stop();
@@ -642,20 +605,20 @@ public final class PromisesTest {
         }
         due.same("21: still sealed", x.seal(), -1);
         due.same("21: increments stay", x.increment(5), 3);
-        runNested(x);
+        Sample.runNested(x);
         dueRow("21: a run after it, count", counts(x, 6), 0, 1, 1, 2, 1, 1);
         due.same("21: a run after it, passed(9)", x.passed(9), 1);
     }
 
     private static void clearBeforeSeal() {
-        SpanningProbes x = graph(3, 0, 2);
+        SpanningProbes x = Sample.graph(3, 0, 2);
         x.clear();
         due.same("21: edges stay", x.edge(2, 1), 1);
         due.same("21: it can be sealed", x.seal(), 1);
     }
 
     private static void notSealed() {
-        SpanningProbes x = graph(3, 0, 2, 2, 2, 2, 1);
+        SpanningProbes x = Sample.graph(3, 0, 2, 2, 2, 2, 1);
         for (int i = -2; i < 5; i++) {
             due.same("not sealed: back", x.back(i), false);
             due.same("not sealed: depth", x.depth(i), -1);
